@@ -7,6 +7,9 @@ final class Bits {
     static final int[] ALL_LENGTHS = {4, 4, 4, 4, 4, 4, 4, 4, 4, 4, 4, 4, 4, 5, 5, 5, 5, 5, 5};
     private static final int[] ORDER = {16, 17, 18, 0, 8, 7, 9, 6, 10, 5, 11, 4, 12, 3, 13, 2, 14, 1, 15};
 
+    private static final int[] LENGTHS = {3, 4, 5, 6, 7, 8, 9, 10, 11, 13, 15, 17, 19, 23, 27, 31,
+        35, 43, 51, 59, 67, 83, 99, 115, 131, 163, 195, 227};
+
     private final ByteArrayOutputStream bytes = new ByteArrayOutputStream();
     private int held;
     private int heldBits;
@@ -81,6 +84,35 @@ final class Bits {
 
     Bits fixedCopy(int symbol, int extra, int extraBits, int distance, int far, int farBits) {
         return fixed(symbol).number(extra, extraBits).code(distance, 5).number(far, farBits);
+    }
+
+    Bits literals(byte[] values) {
+        for (byte value : values) {
+            fixed(value & 255);
+        }
+        return this;
+    }
+
+    /** A copy by fixed codes, by the symbols that have the fewest extra bits. */
+    Bits copy(int length, int distance) {
+        if (length == 258) {
+            fixed(285);
+        } else {
+            int i = LENGTHS.length - 1;
+            while (LENGTHS[i] > length) {
+                i--;
+            }
+            fixed(257 + i).number(length - LENGTHS[i], i < 8 ? 0 : (i - 4) / 4);
+        }
+        int base = 1;
+        int symbol = 0;
+        int extra = 0;
+        while (base + (1 << extra) <= distance) {
+            base += 1 << extra;
+            symbol++;
+            extra = symbol < 4 ? 0 : symbol / 2 - 1;
+        }
+        return code(symbol, 5).number(distance - base, extra);
     }
 
     /** What stands before the code lengths: how many there are, and the set that they are written by. */

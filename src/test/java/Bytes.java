@@ -23,6 +23,16 @@ final class Bytes {
         return bytes;
     }
 
+    /** Up to 4000 bytes, 90 values from this one on, of which no three stand twice: none is a copy. */
+    static byte[] unlike(int least, int many) {
+        byte[] bytes = new byte[many];
+        for (int i = 0; i < many; i++) {
+            // Forty values stand at even places and fifty others at odd ones: each pair comes once.
+            bytes[i] = (byte) (least + (i % 2 == 0 ? i / 100 : 40 + i / 2 % 50));
+        }
+        return bytes;
+    }
+
     static byte[] join(byte[]... parts) {
         ByteArrayOutputStream all = new ByteArrayOutputStream();
         for (byte[] part : parts) {

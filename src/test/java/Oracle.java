@@ -5,9 +5,6 @@ import java.util.zip.Inflater;
 
 /** What the document asks of pack and open, by plainer or foreign ways. */
 final class Oracle {
-    private static final int[] LENGTHS = {3, 4, 5, 6, 7, 8, 9, 10, 11, 13, 15, 17, 19, 23, 27, 31,
-        35, 43, 51, 59, 67, 83, 99, 115, 131, 163, 195, 227};
-
     private Oracle() {
     }
 
@@ -30,7 +27,7 @@ final class Oracle {
                 bits.symbol(codes, bytes[at] & 255);
                 at++;
             } else {
-                writeCopy(bits, best, distance);
+                bits.copy(best, distance);
                 at += best;
             }
         }
@@ -43,27 +40,6 @@ final class Oracle {
             many++;
         }
         return many;
-    }
-
-    private static void writeCopy(Bits bits, int length, int distance) {
-        if (length == 258) {
-            bits.fixed(285);
-        } else {
-            int i = LENGTHS.length - 1;
-            while (LENGTHS[i] > length) {
-                i--;
-            }
-            bits.fixed(257 + i).number(length - LENGTHS[i], i < 8 ? 0 : (i - 4) / 4);
-        }
-        int base = 1;
-        int symbol = 0;
-        int extra = 0;
-        while (base + (1 << extra) <= distance) {
-            base += 1 << extra;
-            symbol++;
-            extra = symbol < 4 ? 0 : symbol / 2 - 1;
-        }
-        bits.code(symbol, 5).number(distance - base, extra);
     }
 
     /** The content of a stream, or null if it is none or has more than most bytes. */
